@@ -22,16 +22,21 @@ public final class AskedIn {
     /** The kind above each kind. */
     private static final int[] ABOVE = {NONE, HOUSE, HOUSE, HOUSE, LONELY, PROUD, LANDLORD};
 
-    private final Street now = new Street();
+    private final Street now;
     private final Street kept = new Street();
     private boolean hasImage;
     private final Text text = new Text();
-    private final Towns towns = new Towns();
-    private final Questions questions = new Questions(now, towns);
+    private final Towns towns;
+    private final Questions questions;
     private final Acts acts = new Acts();
     private final Tapes tapes = new Tapes();
 
     public AskedIn() {
+        Street street = new Street();
+        Towns readTowns = new Towns();
+        now = street;
+        towns = readTowns;
+        questions = new Questions(street, readTowns);
     }
 
     // ---- houses, folk, towns

@@ -75,6 +75,7 @@ public final class PromiseTest {
         due("new: undo", x.undo(), -3);
         due("new: trace", x.trace(0), -1);
         for (int tape = 0; tape < 6; tape++) {
+            due("new: judge", x.judge(tape, 0), -5);
             due("new: item", x.item(tape, 0, 1), -11);
             due("new: read", x.read(tape, 0), NO);
         }
@@ -321,6 +322,12 @@ public final class PromiseTest {
             due("the text is empty then", x.count(6), 0);
             due("no town by it", x.count(2), 0);
         }
+        due("what an earlier text had is gone", Checks.town(x, "walk 1 h="), -19);
+        String long100 = "walk 1 h=1" + "|h=1".repeat(22);
+        due("98 signs, and a sign of 100", Checks.town(x, long100 + "|h"), -110);
+        due("a hundred, and no number yet", Checks.town(x, "walk 01 h=1" + "|h=1".repeat(21) + "&h=11"), 0);
+        due("a hundred that end too early", Checks.town(x, "walk 1 h=11" + "|h=1".repeat(21) + "|h<1&"), -110);
+        x = new AskedIn();
         String ten = "dawn 1;dawn 2;dawn 3;dawn 4;dawn 5;dawn 6;dawn 7;dawn 8;dawn 9;dawn 10";
         due("eleven clauses", Checks.town(x, ten + ";dawn 11"), -10 - ten.length());
         due("ten clauses", Checks.town(x, ten), 0);
@@ -589,6 +596,14 @@ public final class PromiseTest {
         due("the first of it", y.round(0, 59, 10), 0);
         due("the second of it", y.round(0, 59, 11), 1);
         due("the last of it", y.round(0, 59, 14), 5);
+        dueRow(y, 2, 59, 21, 0, 1, 3, 4, 5);
+        dueRow(y, 5, 62, 12, 5, 4, 3, 2, 1);
+        dueRow(y, 4, 55, 18, 4, 5, 2, 1, 0);
+        dueRow(y, 0, 31, 12, 0, 1, 2, 3, 4);
+        dueRow(y, 3, 46, 18, 1, 2, 3, 5);
+        y.sell(1, 1, 1);
+        dueRow(y, 0, 15, 15, 0, 2, 1, 3);
+        y.sell(1, 1, 0);
         y.sack(0, 1);
         due("0 ahead of 2, or 2 ahead of 0: alike far", y.round(0, 5, 1), 9);
         due("the first as a row", y.round(0, 5, 10), 0);
@@ -596,6 +611,17 @@ public final class PromiseTest {
         y.sell(2, 0, 0);
         due("late grain: in at 0 only if that is first", y.round(0, 5, 0), 1);
         due("0 first", y.round(0, 5, 10), 0);
+    }
+
+    /** The best way of one from a sack, and how long it takes; it comes in everywhere. */
+    private static void dueRow(AskedIn x, int sack, int set, int minute, int... row) {
+        x.sack(0, sack);
+        String what = "round " + set + " from " + sack;
+        due(what + ": ins", x.round(0, set, 0), row.length);
+        due(what + ": minute", x.round(0, set, 1), minute);
+        for (int k = 0; k < row.length; k++) {
+            due(what + ": " + k, x.round(0, set, 10 + k), row[k]);
+        }
     }
 
     private static void promise17Refusals() {
@@ -679,6 +705,17 @@ public final class PromiseTest {
         Checks.town(x, "count 1 h<9;count 9 g=9;dawn 99");
         due("99 is in the nineties", x.more(99, 1), 3);
         due("the grain stays", x.of(1, 2), 5);
+        // 3 and 55 at both; one grain more keeps out
+        AskedIn z = new AskedIn();
+        z.house(0, 0, 11);
+        z.house(3, 0, 11);
+        z.house(0, 0, 11);
+        z.house(3, 0, 11);
+        z.folk(2, 0, 1);
+        due("one more: which", z.more(1, 0), 1);
+        due("one more: pairs", z.more(1, 1), 1);
+        due("none more: which", z.more(0, 0), 0);
+        due("none more: pairs", z.more(0, 1), 2);
         // lonely ones let in more by more grain
         AskedIn y = new AskedIn();
         y.house(1, 2, 0);
@@ -971,6 +1008,7 @@ public final class PromiseTest {
         due("an empty row", x.judge(2, 0), 100);
         x.tape(0, -1, 0);
         due("nothing again", x.judge(0, 0), 100);
+        due("the last tape", x.judge(5, 0), 100);
     }
 
     private static void promise30Image() {
@@ -1050,6 +1088,8 @@ public final class PromiseTest {
         x.act(1, 2, 1);
         x.sell(1, 3, 1);
         x.act(1, 2, 1);
+        x.sell(0, 1, 8);
+        x.sell(1, 5, 8);
     }
 
     private static void dueAsImage(AskedIn x) {
@@ -1205,6 +1245,10 @@ public final class PromiseTest {
         due("as it was", x.read(2, 59), 1);
         due("shorter", x.tape(2, 2, 0), 1);
         due("no place", x.item(2, 0, 1), -13);
+        due("the last tape", x.tape(5, 1, 2) + x.item(5, 1, 7), 2);
+        due("read of it", x.read(5, 1), 7);
+        due("shifted in it", x.shift(5, 1, 5, 0, 1), 1);
+        due("it came", x.read(5, 0), 7);
         due("holds nothing", x.tape(1, -1, 99), 1);
         due("nothing", x.item(1, 0, 1), -11);
         due("holds nothing, below 0", x.tape(0, -1, -99), 1);
